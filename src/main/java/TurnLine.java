@@ -1,5 +1,3 @@
-import java.util.Arrays;
-
 /**
  * A line on which only one of two stations can talk at a time. What it must do stands in
  * ../shared/DOC.md as numbered promises; the words TEXT, STATIONS, FRAMES, TURNS and CHANGES in
@@ -25,6 +23,8 @@ public final class TurnLine {
 
     private final TextReader reader;
     private final Line now;
+    /** Never changed: each text begins with it. */
+    private final Line fresh;
     private final Line draft;
     private final Frame coming;
     private final Forecast forecast;
@@ -35,6 +35,7 @@ public final class TurnLine {
     public TurnLine() {
         reader = new TextReader();
         now = new Line();
+        fresh = new Line();
         draft = new Line();
         coming = new Frame();
         forecast = new Forecast();
@@ -61,6 +62,7 @@ public final class TurnLine {
         if (length < 0 || length > reader.filled) {
             throw new IllegalArgumentException("no such length");
         }
+        draft.copyFrom(fresh);
         int fault = reader.readText(length, draft);
         reader.filled = 0;
         if (fault != 0) {
@@ -332,20 +334,6 @@ public final class TurnLine {
             knownLimit = FIRST_CAPACITY;
         }
 
-        void beginAnew() {
-            messages = 0;
-            accepted = 0;
-            hostRead = 0;
-            capacity = FIRST_CAPACITY;
-            wanted = 0;
-            returned = 0;
-            noted = 0;
-            knownAccepted = 0;
-            knownLimit = FIRST_CAPACITY;
-            everSent = 0;
-            turnsPassed = 0;
-        }
-
         void copyFrom(Station other) {
             System.arraycopy(other.lengths, 0, lengths, 0, MOST_MESSAGES);
             System.arraycopy(other.contents, 0, contents, 0, MOST_MESSAGES);
@@ -395,7 +383,7 @@ public final class TurnLine {
         }
 
         int byteOf(int message, int k) {
-            if (k < 0 || k >= lengthOf(message)) {
+            if (!hasMessage(message) || k < 0 || k >= lengths[message]) {
                 return NONE;
             }
             return (int) (contents[message] >>> (8 * k)) & 255;
@@ -476,20 +464,6 @@ public final class TurnLine {
             told = new long[TOLD_WORDS];
             burst = FIRST_BURST;
             silence = FIRST_SILENCE;
-            alsoLost = NONE;
-        }
-
-        void beginAnew() {
-            first.beginAnew();
-            second.beginAnew();
-            Arrays.fill(accounts, 0);
-            Arrays.fill(told, 0L);
-            toldCount = 0;
-            burst = FIRST_BURST;
-            silence = FIRST_SILENCE;
-            talker = 0;
-            sentInTurn = 0;
-            turnMissing = false;
             alsoLost = NONE;
         }
 
@@ -895,14 +869,13 @@ public final class TurnLine {
             }
         }
 
-        /** Writes the line of the text's first bytes into a draft; returns the fault. */
+        /** Writes the line of the text's first bytes into a new draft; returns the fault. */
         int readText(int length, Line draft) {
             end = length;
             at = 0;
             fault = 0;
             firstHasWindow = false;
             secondHasWindow = false;
-            draft.beginAnew();
             advance();
             takeWord("line");
             draft.burst = takeNumber(1, MOST_BURST);

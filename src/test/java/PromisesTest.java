@@ -148,6 +148,8 @@ public final class PromisesTest {
         dueFault("line 3 20", 9, 1);
         dueFault("line 3 20 \n", 11, 1);
         dueFault("lin 3 20;", 0, 1);
+        dueFault("mine 3 20;", 0, 1);
+        dueFault("lint 3 20;", 0, 1);
         dueFault("linee 3 20;", 0, 1);
         dueFault("Line 3 20;", 0, 1);
         dueFault(" linelines 3 20;", 1, 1);
@@ -186,6 +188,7 @@ public final class PromisesTest {
         dueFault("line 3 20;window 0 10;", 19, 3);
         dueFault("line 3 20;message 2 1;", 18, 3);
         dueFault("line 3 20;message 0 256;", 20, 3);
+        dueFault("line 3 20;message 0 1 256;", 22, 3);
         dueFault("line 3 20;message 0 1 999;", 22, 3);
         dueFault("line 3 20;lose 500;", 15, 3);
     }
@@ -193,6 +196,7 @@ public final class PromisesTest {
     private static void parseTooMany() {
         String nine = "line 3 20;message 0 1 2 3 4 5 6 7 8 ";
         dueFault(nine + "9;", 36, 4);
+        dueFault(nine + "0;", 36, 4);
         dueFault(nine + "9", 36, 4);
         dueFault(nine + "256;", 36, 3);
         dueFault(nine + "1000;", 36, 1);
