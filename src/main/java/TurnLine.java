@@ -517,16 +517,15 @@ public final class TurnLine {
             second.hostRead = second.accepted;
         }
 
-        /** No frame of the listener comes in a turn, so the accepted that is known stays. */
-        int nextMessage() {
-            return side(talker).knownAccepted + sentInTurn;
-        }
-
-        boolean isDataNext() {
-            Station sender = side(talker);
-            int message = nextMessage();
-            return !turnMissing && sentInTurn < burst
+        /**
+         * The message that is sent next, NONE if a turn is. No frame of the listener comes in a
+         * turn, so the accepted that the talker knows stays.
+         */
+        int nextMessage(Station sender) {
+            int message = sender.knownAccepted + sentInTurn;
+            boolean isNext = !turnMissing && sentInTurn < burst
                 && message < sender.knownLimit && sender.hasMessage(message);
+            return isNext ? message : NONE;
         }
 
         /** The frame is only a place to write in, so that no step makes a new one. */
@@ -607,8 +606,9 @@ public final class TurnLine {
 
         void fillFrom(Line line) {
             Station sender = line.side(line.talker);
-            isData = line.isDataNext();
-            number = isData ? line.nextMessage() : sender.turnsPassed;
+            int message = line.nextMessage(sender);
+            isData = message != NONE;
+            number = isData ? message : sender.turnsPassed;
             count = 0;
             sum = 0;
             escapes = 0;
@@ -692,7 +692,8 @@ public final class TurnLine {
         }
 
         int delayBy(Line from, int lost) {
-            int without = ticks(from, true);
+            trial.copyFrom(from);
+            int without = ticksToEnd(true);
             trial.copyFrom(from);
             trial.alsoLost = lost;
             int with = ticksToEnd(true);
@@ -800,12 +801,14 @@ public final class TurnLine {
 
         /** Its line comes to the end, to be written in once more. */
         private void forgetOldest() {
-            Line oldest = kept[0];
+            Line oldest = lineAt(0);
             for (int i = 1; i < kept.length; i++) {
                 kept[i - 1] = kept[i];
             }
-            kept[kept.length - 1] = oldest;
             count = kept.length - 1;
+            if (count >= 0) {
+                kept[count] = oldest;
+            }
         }
     }
 

@@ -1,16 +1,5 @@
 /** Each promise of the document in its order, with numbers that were worked out by hand. */
-public final class PromisesTest {
-    private static final String ARGUMENT = "throws.IllegalArgumentException";
-    private static final String STATE = "throws.IllegalStateException";
-    private static final String INDEX = "throws.IndexOutOfBoundsException";
-    private static final int MIN = Integer.MIN_VALUE;
-    private static final int MAX = Integer.MAX_VALUE;
-    /** A frame of data of one byte takes 10 ticks, a turn 9, if nothing is escaped. */
-    private static final String ONE_MESSAGE = "line 1 10;message 0 1;";
-    /** Losing frame 4 costs a silence; losing frame 0 as well makes frame 4 one of data. */
-    private static final String SHIFTED =
-        "line 1 99;message 0 1;message 1 2;message 1 3;lose 4;";
-
+public final class PromisesTest extends Answers {
     private PromisesTest() {
     }
 
@@ -48,41 +37,6 @@ public final class PromisesTest {
         snapshots();
         throwingChangesNothing();
         Check.end("PromisesTest");
-    }
-
-    private static void due(String call, Object want, Check.Call made) {
-        Check.due(call, want, made);
-    }
-
-    private static void dueSizes(String when, TurnLine line, int... want) {
-        for (int i = 0; i < want.length; i++) {
-            int what = i;
-            due(when + ": size(" + i + ")", want[i], () -> line.size(what));
-        }
-    }
-
-    private static void dueStation(String when, TurnLine line, int station, int... want) {
-        for (int i = 0; i < want.length; i++) {
-            int what = i;
-            due(when + ": station(" + station + ", " + i + ")", want[i],
-                () -> line.station(station, what));
-        }
-    }
-
-    private static void dueAccounts(String when, TurnLine line, int... want) {
-        for (int i = 0; i < want.length; i++) {
-            int what = i;
-            due(when + ": account(" + i + ")", want[i], () -> line.account(what));
-        }
-    }
-
-    private static void dueWire(String when, TurnLine line, int... want) {
-        for (int i = 0; i < want.length; i++) {
-            int k = i;
-            due(when + ": nextByte(" + i + ")", want[i], () -> line.nextByte(k));
-        }
-        due(when + ": nextByte past the end", -1, () -> line.nextByte(want.length));
-        due(when + ": next(3)", want.length, () -> line.next(3));
     }
 
     private static void newObject() {
@@ -306,13 +260,6 @@ public final class PromisesTest {
         }
     }
 
-    private static void dueNext(String when, TurnLine line, int... want) {
-        for (int i = 0; i < want.length; i++) {
-            int what = i;
-            due(when + ": next(" + i + ")", want[i], () -> line.next(what));
-        }
-    }
-
     private static void next() {
         TurnLine line = Check.lineOf("line 1 10;message 0 1;message 0 2;message 1 5 6;lose 2;");
         dueNext("data", line, 0, 0, 0, 10, 0, 0);
@@ -381,11 +328,6 @@ public final class PromisesTest {
         back.run(1);
         dueWire("256 returned", back, 126, 3, 32, 0, 9, 0, 0, 44, 126);
         dueStation("256 noted", back, 0, 0, 0, 0, 9, 0, 0, 0, 9, 0, 33);
-    }
-
-    private static void dueUntil(String when, TurnLine line, int ticks, int frames) {
-        due(when + ": ticks", ticks, () -> line.until(true, 0));
-        due(when + ": frames", frames, () -> line.until(true, 1));
     }
 
     private static void until() {

@@ -44,6 +44,8 @@ public final class RulesTest {
         boolean restoreSnapshot(int)
         """;
 
+    private static final int ROUNDS = 12;
+
     private RulesTest() {
     }
 
@@ -51,6 +53,7 @@ public final class RulesTest {
         face();
         members();
         source();
+        CallDepths.check(SOURCE);
         room();
         Check.end("RulesTest");
     }
@@ -129,10 +132,9 @@ public final class RulesTest {
     private static void source() throws IOException {
         String code = Files.readString(SOURCE).replaceAll("(?s)/\\*.*?\\*/", " ")
             .replaceAll("//[^\n]*", " ").replaceAll("\"[^\"\n]*\"", "\"\"");
-        String[] forbidden = {"\\bpackage\\b", "\\bimport\\b", "\\btry\\b", "\\bcatch\\b",
-            "\\bfinally\\b", "\\bsynchronized\\b", "\\bassert\\b", "->", "::", "Exact\\b",
-            "\\binstanceof\\b", "\\bprotected\\b", "\\bstatic \\{", "\\bSystem\\.(?!arraycopy)",
-            "\\bObject\\b", "\\bfloat\\b", "\"\"\\s*\\+", "\\+\\s*\"\"", "@"};
+        String[] forbidden = {"\\bpackage\\b", "\\bfinally\\b", "\\bsynchronized\\b",
+            "\\bassert\\b", "\\)\\s*->", "::", "Exact\\b", "\\bprotected\\b", "\\bstatic \\{",
+            "\\bSystem\\.(?!arraycopy)", "\"\"\\s*\\+", "\\+\\s*\"\""};
         for (String sign : forbidden) {
             Check.due("the source has " + sign, false, Pattern.compile(sign).matcher(code).find());
         }
@@ -145,21 +147,24 @@ public final class RulesTest {
         }
     }
 
-    /** All calls but the constructor go on with the rows that the constructor made. */
+    /**
+     * An object with all its calls stays far below the 7.3 million fields and elements that a
+     * run's room has: each of them takes a byte or more.
+     */
     private static void room() {
         ThreadMXBean thread = (ThreadMXBean) ManagementFactory.getThreadMXBean();
-        TurnLine line = Check.lineOf("line 1 1;message 0 1;message 1 1;lose 3;");
-        long answers = allCalls(line);
         long before = thread.getThreadAllocatedBytes(Thread.currentThread().getId());
-        for (int n = 0; n < 100; n++) {
+        TurnLine line = new TurnLine();
+        long answers = 0;
+        for (int n = 0; n < ROUNDS; n++) {
             answers += allCalls(line);
         }
         long made = thread.getThreadAllocatedBytes(Thread.currentThread().getId()) - before;
-        // asking for the number may itself make something
-        Check.due("100 rounds of calls make " + made + " bytes", true, made < 10000);
-        Check.due("the rounds were not left out", true, answers != 0);
+        Check.due("an object and its calls take " + made + " bytes", true, made < 1_000_000);
+        Check.due("the calls were not left out", true, answers != 0);
     }
 
+    /** Some forty calls: with ROUNDS of them an object is nearly used up. */
     private static long allCalls(TurnLine line) {
         // "line 1 1;message 0 1" ";"
         long sum = line.append(0x6c696e65, 0x20312031, 0x3b6d6573, 0x73616765, 0x20302031);

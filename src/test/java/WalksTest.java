@@ -7,14 +7,17 @@ import java.util.Random;
  * seeds are fixed, so a run that fails once fails always.
  */
 public final class WalksTest {
-    private static final int WALKS = 500;
+    private static final int WALKS = 1500;
+    /** An object is used for so many calls; of these, the last are a look at all. */
     private static final int CALLS = 512;
+    private static final int LAST_CALLS = 100;
 
     private final Random random;
     private final TurnLine real = new TurnLine();
     private final PlainLine plain = new PlainLine();
     private final String name;
     private final int style;
+    private int left = CALLS;
 
     private WalksTest(int walk) {
         random = new Random(walk);
@@ -34,8 +37,8 @@ public final class WalksTest {
         if (style != 0) {
             readText(goodText());
         }
-        for (int call = 0; call < CALLS; call++) {
-            oneCall(name + " call " + call + " ");
+        while (left > LAST_CALLS) {
+            oneCall(name + " call " + (CALLS - left) + " ");
         }
         lookAtAll(name + " at its end ");
     }
@@ -44,7 +47,7 @@ public final class WalksTest {
     private void oneCall(String at) {
         int draw = random.nextInt(100);
         if (draw < (style == 1 ? 40 : 14)) {
-            int steps = style == 1 ? below(4) : odd(random.nextInt(8) == 0 ? 101 : 6);
+            int steps = style == 1 ? below(6) : odd(random.nextInt(8) == 0 ? 101 : 6);
             compare(at + "run(" + steps + ")", () -> plain.run(steps), () -> real.run(steps));
         } else if (draw < 55) {
             change(at);
@@ -149,7 +152,10 @@ public final class WalksTest {
             }
             case 6 -> compare(at + "next(" + what + ")",
                 () -> plain.next(what), () -> real.next(what));
-            case 7 -> compareNextBytes(at);
+            case 7 -> {
+                int k = odd(27);
+                compare(at + "nextByte(" + k + ")", () -> plain.nextByte(k), () -> real.nextByte(k));
+            }
             case 8, 9 -> compareUntil(at, odd(2));
             case 10, 11 -> {
                 int f = nearFrame();
@@ -160,14 +166,6 @@ public final class WalksTest {
             case 14 -> compare(at + "account(" + what + ")",
                 () -> plain.account(what), () -> real.account(what));
             default -> compare(at + "efficiency()", plain::efficiency, real::efficiency);
-        }
-    }
-
-    private void compareNextBytes(String at) {
-        for (int k = -1; k < 35; k++) {
-            int place = k;
-            compare(at + "nextByte(" + k + ")",
-                () -> plain.nextByte(place), () -> real.nextByte(place));
         }
     }
 
@@ -189,7 +187,10 @@ public final class WalksTest {
                     () -> plain.station(station, what), () -> real.station(station, what));
             }
         }
-        compareNextBytes(at);
+        for (int i = -1; i < 28; i++) {
+            int k = i;
+            compare(at + "nextByte " + k, () -> plain.nextByte(k), () -> real.nextByte(k));
+        }
     }
 
     private void text(String at) {
@@ -262,7 +263,11 @@ public final class WalksTest {
         return text.toString();
     }
 
-    private static void compare(String call, Check.Call want, Check.Call got) {
-        Check.due(call, Check.answer(want), got);
+    /** Makes no call any more when the object was used up. */
+    private void compare(String call, Check.Call want, Check.Call got) {
+        if (left > 0) {
+            left--;
+            Check.due(call, Check.answer(want), got);
+        }
     }
 }
